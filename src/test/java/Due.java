@@ -1,0 +1,47 @@
+/** Counts and prints the answers that are not the ones that are due. */
+final class Due {
+  interface Call {
+    Object answer();
+  }
+
+  private static int asked = 0;
+  private static int wrong = 0;
+
+  private Due() {
+  }
+
+  static void is(String what, Object got, Object want) {
+    asked++;
+    if (!want.equals(got)) {
+      wrong++;
+      System.out.println(what + " answered " + got + ", due is " + want);
+    }
+  }
+
+  static void index(String what, Call call) {
+    is(what, outcome(call), "throws IndexOutOfBoundsException");
+  }
+
+  static void argument(String what, Call call) {
+    is(what, outcome(call), "throws IllegalArgumentException");
+  }
+
+  static void state(String what, Call call) {
+    is(what, outcome(call), "throws IllegalStateException");
+  }
+
+  private static Object outcome(Call call) {
+    try {
+      return call.answer();
+    } catch (RuntimeException e) {
+      // The class itself, not one below it: ArrayIndexOutOfBoundsException would be the machine's.
+      return "throws " + e.getClass().getSimpleName();
+    }
+  }
+
+  /** Ends the program: 1 if an answer was wrong. */
+  static void end(String name) {
+    System.out.println(name + ": " + asked + " answers, " + wrong + " of them wrong");
+    System.exit(wrong == 0 && asked > 0 ? 0 : 1);
+  }
+}
