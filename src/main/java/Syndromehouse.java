@@ -462,6 +462,9 @@ public final class Syndromehouse {
 
   public String text(int code) throws IndexOutOfBoundsException {
     Code it = codeAt(code);
+    if (it.dimension() == 0) {
+      return "-";
+    }
     StringBuilder text = new StringBuilder();
     for (int i = 0; i < it.dimension(); i++) {
       if (i > 0) {
@@ -469,7 +472,7 @@ public final class Syndromehouse {
       }
       appendSigns(text, it.rows.lines[i], it.length);
     }
-    return text.length() == 0 ? "-" : text.toString();
+    return text.toString();
   }
 
   // ---- what is asked of the letter and the stream
