@@ -58,6 +58,8 @@ public final class AskedTest {
     told("that by evaluation", x, 8, 4, 4, 15, 0b10111, 1, 0, 0, 1, 2, 1, 3);
     x.shifts(0, 5, 31);
     told("five times the same", x, 5, 1, 5, 31, 1, 2, 1, 1, 1, 2, 0, 4);
+    x.shifts(0, 9, 511);
+    told("nine times the same", x, 9, 1, 9, 511, 1, 4, 1, 1, 1, 4, 0, 8);
     x.shifts(0, 4, 15);
     told("four times the same", x, 4, 1, 4, 15, 1, 1, 0, 1, 1, 2, 0, 3);
     x.shifts(0, 4, 3);

@@ -148,6 +148,10 @@ public final class LetterTest {
     Due.is("-7 counted", x.house(5), 1);
     Due.is("0 alone is the nearest", copyOfZero(x).mend(1), 0);
     shape("it became 0", x, 3, 0, 0, 11);
+    x.zero(1, 9);
+    x.hear(9, 511);
+    Due.is("all nine are false", x.mend(1), 9);
+    shape("all nine are changed", x, 9, 0, 0, 9);
     Syndromehouse y = repeating(2);
     y.hear(2, 1);
     Due.is("two as near", y.mend(0), -7);
