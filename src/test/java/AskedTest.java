@@ -324,7 +324,6 @@ public final class AskedTest {
     x.knock();
     x.taps(5, 6);
     Due.is("the sum with a STREAM", x.digest(), summed(x));
-    Due.is("asked again", x.digest(), summed(x));
   }
 
   private static long summed(Syndromehouse x) {

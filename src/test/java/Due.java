@@ -6,15 +6,25 @@ final class Due {
 
   private static int asked = 0;
   private static int wrong = 0;
+  private static String about = "";
 
   private Due() {
+  }
+
+  /** What stands ahead of each line that is printed from here on. */
+  static void about(String what) {
+    about = what.isEmpty() ? "" : what + ": ";
+  }
+
+  static int asked() {
+    return asked;
   }
 
   static void is(String what, Object got, Object want) {
     asked++;
     if (!want.equals(got)) {
       wrong++;
-      System.out.println(what + " answered " + got + ", due is " + want);
+      System.out.println(about + what + " answered " + got + ", due is " + want);
     }
   }
 
@@ -30,7 +40,8 @@ final class Due {
     is(what, outcome(call), "throws IllegalStateException");
   }
 
-  private static Object outcome(Call call) {
+  /** The answer, or the name of what was thrown. */
+  static Object outcome(Call call) {
     try {
       return call.answer();
     } catch (RuntimeException e) {
