@@ -318,6 +318,19 @@ final class EdgesOfCodes {
         }
       }
     }
+    Sentence.of(11, "(its PLACES are more by LENGTH of the first one)");
+    for (int length = 1; length <= 8; length++) {
+      Syndromehouse x = Edges.with(length, 1);
+      x.zero(1, 9 - length);
+      x.row(1, 1 << 8 - length);
+      x.join(0, 1);
+      Due.is("the first PLACE, of " + length, x.line(0, 0, false), 1);
+      Due.is("the last PLACE, of " + (9 - length), x.line(0, 1, false), 256);
+      Edges.put(x, 0, length, 1);
+      x.zero(1, 9 - length);
+      x.join(1, 0);
+      Due.is("behind 0 alone, of " + length, x.line(1, 0, false), 1 << 9 - length);
+    }
     Sentence.of(11, "- `other`: the other one (or the same)");
     Syndromehouse y = Edges.with(4, 1, 14);
     Due.is("the same", y.join(0, 0), 4);
@@ -343,6 +356,18 @@ final class EdgesOfCodes {
           Edges.told(x, one + " by " + other, -8, () -> x.multiply(0, 1));
         }
       }
+    }
+    Sentence.of(12, "its PLACES are i + LENGTH * j then, with i of its own LENGTH, j of the other one's;");
+    for (int length = 1; length <= 9; length++) {
+      Syndromehouse x = Edges.with(length, 1);
+      int other = 9 / length;
+      Edges.put(x, 1, other, 1 << other - 1);
+      x.multiply(0, 1);
+      Due.is("the first PLACE by the last one, " + length, x.line(0, 0, false), 1 << length * (other - 1));
+      Edges.put(x, 0, length, 1 << length - 1);
+      Edges.put(x, 1, other, 1);
+      x.multiply(0, 1);
+      Due.is("the last PLACE by the first one, " + length, x.line(0, 0, false), 1 << length - 1);
     }
     Sentence.of(12, "- `other`: the other one (or the same)");
     Syndromehouse y = Edges.with(3, 7);
@@ -422,11 +447,18 @@ final class EdgesOfCodes {
       Due.is("the last PLACE of " + length, x.move(0, 0, last), last == 0 ? 0 : 1);
       Due.is("the ROW of " + length, x.line(0, 0, false), 1 << last);
       Due.is("and back", x.move(0, last, 0), last == 0 ? 0 : 1);
-      Due.is("- `other`: a PLACE (or the same)", x.move(0, last, last), 0);
       x.all(0, length);
       Due.is("all WORDS stay all", x.move(0, 0, last), 0);
       x.zero(0, length);
       Due.is("0 alone stays", x.move(0, 0, last), 0);
+    }
+    Sentence.of(15, "- `other`: a PLACE (or the same)");
+    for (int place = 0; place < 9; place++) {
+      Syndromehouse x = Edges.with(9, 1, 14, 496);
+      String before = x.text(0);
+      Due.is("the same PLACE " + place, x.move(0, place, place), 0);
+      Due.is("as before", x.text(0), before);
+      Due.is("it is a step all the same", x.house(0), 5);
     }
   }
 

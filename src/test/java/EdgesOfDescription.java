@@ -22,6 +22,7 @@ final class EdgesOfDescription {
     bounds();
     likeness();
     letterAtFirst();
+    doubtsOfPlaces();
     writing();
     nearness();
     place();
@@ -379,7 +380,7 @@ final class EdgesOfDescription {
     x.row(0, 65);
     Due.is("six ROWS of 7, DISTANCE 2", x.ofCode(0, 7), 1);
     says("that of SUMS, if n is the sum, over all i from 0 to k - 1, of d divided by 2^i, each of these rounded up.");
-    // 3 + 2 + 1 is 6, by rounding down it would be 4, at once 5; a PLACE more is one too many.
+    // 3 + 2 + 1 are 6; each of them rounded down, they would be 4.
     Edges.put(x, 1, 6, 0b100011, 0b010101, 0b001110);
     Due.is("DISTANCE", x.ofCode(1, 2), 3);
     Due.is("6 of DISTANCE 3, three ROWS", x.ofCode(1, 8), 1);
@@ -414,6 +415,27 @@ final class EdgesOfDescription {
     Syndromehouse x = new Syndromehouse();
     Edges.letter("at first", x, 1, 0, 0, 1);
     Due.is("DOUBT", x.doubt(0, 1), 1);
+  }
+
+  private static void doubtsOfPlaces() {
+    says("for each PLACE a DOUBT (0 to 9: how much it is doubted that it is false).");
+    Syndromehouse x = new Syndromehouse();
+    x.hear(9, 0);
+    for (int place = 0; place < 9; place++) {
+      x.doubt(place, 9 - place);
+    }
+    for (int place = 0; place < 9; place++) {
+      Due.is("DOUBT of PLACE " + place, x.doubt(place, place == 8 ? 0 : 9), 9 - place);
+    }
+    Due.is("eight times 9, and 0", x.letter(3), 72);
+    for (int wrong : new int[] {-1, 10}) {
+      int doubt = wrong;
+      Edges.argument(x, "DOUBT " + doubt, () -> x.doubt(0, doubt));
+    }
+    for (int place = 8; place >= 0; place--) {
+      x.undo();
+    }
+    Due.is("undone", x.letter(3), 45);
   }
 
   private static void writing() {
@@ -572,6 +594,17 @@ final class EdgesOfDescription {
     Edges.letter("and has its DOUBT again", x, 4, 0, 0, 11);
     x.hear(4, 9);
     Due.is("it is there again", x.byDoubt(0), 9);
+    Edges.put(x, 0, 4, 15);
+    x.hear(4, 9);
+    x.lose(3, true);
+    Due.is("9 costs less than 6, since the PLACE 3 is LOST", x.byDoubt(0), 0);
+    Edges.letter("9 is changed", x, 4, 0, 0, 11);
+    x.hear(4, 1);
+    for (int place = 0; place < 4; place++) {
+      x.lose(place, true);
+    }
+    Due.is("all are LOST", x.byDoubt(0), 0);
+    Edges.letter("the smallest set", x, 4, 0, 0, 11);
   }
 
   private static void rounds() {
@@ -615,6 +648,14 @@ final class EdgesOfDescription {
       } else {
         Edges.told(x, "LENGTH " + length, -8, () -> x.byVotes());
       }
+    }
+    for (int word : new int[] {170, 204, 240, 170 ^ 1}) {
+      Syndromehouse x = new Syndromehouse();
+      x.hear(8, word);
+      for (int place = 0; place < 8; place++) {
+        x.lose(place, true);
+      }
+      Due.is("all are LOST of " + word, x.byVotes(), word == 204 ? 4 : word == 240 ? 8 : 2);
     }
     says("If three or four votes are 1, a(i) is 1, if none or one is, it is 0; BEYOND MENDING with two.");
     int[] ones = {170, 204, 240};
